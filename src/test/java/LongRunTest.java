@@ -10,11 +10,14 @@ public final class LongRunTest {
 
     public static void main(String[] args) {
         dueDearest();
+        dueLast();
+        dueRefusedOnly();
         dueWild(new Random(17));
         CHECK.end();
     }
 
     private static void dueDearest() {
+        CHECK.sentence("What it is", "An object is used for at most 512 calls after it has been made");
         CellBench bench = new CellBench();
         for (int i = 0; i < 40; i++) {
             CHECK.due("cell", bench.cell(9_001 + i, 9_437, 9_973, 1_013, 2_203, 3_301), i);
@@ -24,6 +27,32 @@ public final class LongRunTest {
             int other = (call / 40 + cell) % 40;
             CHECK.due("common(" + cell + ", 12, " + other + ", 12)",
                     bench.common(cell, 12, other, 12), cell == other ? 455 : 0);
+        }
+    }
+
+    /** The last of the 512 calls still makes a cell, or finds one that was made by the call before. */
+    private static void dueLast() {
+        CellBench making = new CellBench();
+        CellBench asking = new CellBench();
+        for (int call = 1; call < CALLS; call++) {
+            CHECK.due("call " + call, making.same(0), -1);
+            if (call < CALLS - 1) {
+                CHECK.due("call " + call, asking.shorter(0, 1), -1);
+            }
+        }
+        CHECK.due("call 512", making.cell(1, 1, 1, 0, 0, 0), 0);
+        CHECK.due("call 511", asking.cell(1, 1, 1, 0, 0, 0), 0);
+        CHECK.due("call 512", asking.shorter(0, 1), 6);
+    }
+
+    /** Refused calls count as calls, but use up none of the 40 cells. */
+    private static void dueRefusedOnly() {
+        CellBench bench = new CellBench();
+        for (int call = 0; call < CALLS - 40; call++) {
+            CHECK.due("refused", bench.cell(1, 1, 1, 1, 0, 0), -1);
+        }
+        for (int i = 0; i < 40; i++) {
+            CHECK.due("cell", bench.cell(1, 1, 1, 0, 0, 0), i);
         }
     }
 

@@ -19,14 +19,14 @@ public final class RandomRunsTest {
     }
 
     private static void runOne(Random random, int kind, boolean withMultiples) {
-        CellBench bench = new CellBench();
+        Lasting bench = new Lasting();
         List<int[]> told = new ArrayList<>();
         for (int i = 0; i < 60 && told.size() < 40; i++) {
             int[] six = told.isEmpty() || random.nextInt(4) != 0
                     ? randomSix(random, kind) : changedBasis(random, told.get(random.nextInt(told.size())));
             boolean taken = Plain.isCell(six);
             CHECK.due("cell" + Arrays.toString(six),
-                    bench.cell(six[0], six[1], six[2], six[3], six[4], six[5]), taken ? told.size() : -1);
+                    bench.cell(six), taken ? told.size() : -1);
             if (taken) {
                 told.add(six);
             }
@@ -89,29 +89,29 @@ public final class RandomRunsTest {
         return out;
     }
 
-    private static void compareReduced(CellBench bench, List<int[]> told, int cell, Random random) {
+    private static void compareReduced(Lasting bench, List<int[]> told, int cell, Random random) {
         long[] six = Plain.toLongs(told.get(cell));
         String name = Arrays.toString(six);
         List<Long> low = Plain.reduce(six);
         for (int what = 0; what < 6; what++) {
-            CHECK.due(name + " reduced " + what, bench.reduced(cell, what), low.get(what));
+            CHECK.due(name + " reduced " + what, bench.now().reduced(cell, what), low.get(what));
         }
-        CHECK.due(name + " reduced 6", bench.reduced(cell, 6), Plain.symmetry(Plain.sixOf(low)));
-        CHECK.due(name + " reduced 7", bench.reduced(cell, 7),
+        CHECK.due(name + " reduced 6", bench.now().reduced(cell, 6), Plain.symmetry(Plain.sixOf(low)));
+        CHECK.due(name + " reduced 7", bench.now().reduced(cell, 7),
                 Plain.determinant(told.get(cell)).longValueExact());
-        CHECK.due(name + " reduced 8", bench.reduced(cell, 8), low.get(6));
+        CHECK.due(name + " reduced 8", bench.now().reduced(cell, 8), low.get(6));
         int first = 0;
         while (!Plain.reduce(Plain.toLongs(told.get(first))).subList(0, 6).equals(low.subList(0, 6))) {
             first++;
         }
-        CHECK.due(name + " same", bench.same(cell), first);
+        CHECK.due(name + " same", bench.now().same(cell), first);
         int spread = 1 + random.nextInt(40);
         for (int nine = random.nextInt(40); nine < 19_683; nine += spread) {
-            CHECK.due(name + " keeps " + nine, bench.keeps(cell, nine), Plain.keeps(six, nine));
+            CHECK.due(name + " keeps " + nine, bench.now().keeps(cell, nine), Plain.keeps(six, nine));
         }
     }
 
-    private static void compareRoutes(CellBench bench, List<int[]> told, int cell, Random random) {
+    private static void compareRoutes(Lasting bench, List<int[]> told, int cell, Random random) {
         long[] six = Plain.toLongs(told.get(cell));
         String name = Arrays.toString(six);
         for (int turn = 0; turn < 8; turn++) {
@@ -120,31 +120,31 @@ public final class RandomRunsTest {
             int y = random.nextInt(2 * reach + 1) - reach;
             int z = random.nextInt(2 * reach + 1) - reach;
             CHECK.due(name + " step " + x + " " + y + " " + z,
-                    bench.step(cell, x, y, z), Plain.length(six, x, y, z));
+                    bench.now().step(cell, x, y, z), Plain.length(six, x, y, z));
             long r = Plain.length(six, x % 5, y % 5, z % 5) - random.nextInt(2);
-            CHECK.due(name + " shorter " + r, bench.shorter(cell, r), Plain.shorter(six, r));
+            CHECK.due(name + " shorter " + r, bench.now().shorter(cell, r), Plain.shorter(six, r));
         }
     }
 
-    private static void compareMultiples(CellBench bench, List<int[]> told, Random random) {
+    private static void compareMultiples(Lasting bench, List<int[]> told, Random random) {
         int cell = random.nextInt(told.size());
         int other = random.nextInt(told.size());
         long[] six = Plain.toLongs(told.get(cell));
         int n = 1 + random.nextInt(12);
         String name = Arrays.toString(six) + " by " + n;
         TreeMap<List<Long>, Integer> want = Plain.multiples(six, n);
-        CHECK.due(name + " multiples", bench.multiples(cell, n), want.size());
+        CHECK.due(name + " multiples", bench.now().multiples(cell, n), want.size());
         int k = 0;
         for (Map.Entry<List<Long>, Integer> row : want.entrySet()) {
             for (int what = 0; what < 6; what++) {
                 CHECK.due(name + " multiple " + k + " " + what,
-                        bench.multiple(cell, n, k, what), row.getKey().get(what));
+                        bench.now().multiple(cell, n, k, what), row.getKey().get(what));
             }
-            CHECK.due(name + " multiple " + k + " 6", bench.multiple(cell, n, k, 6), row.getValue());
+            CHECK.due(name + " multiple " + k + " 6", bench.now().multiple(cell, n, k, 6), row.getValue());
             k++;
         }
         int m = random.nextBoolean() ? n : 1 + random.nextInt(12);
-        CHECK.due(name + " common " + other + " by " + m, bench.common(cell, n, other, m),
+        CHECK.due(name + " common " + other + " by " + m, bench.now().common(cell, n, other, m),
                 Plain.common(six, n, Plain.toLongs(told.get(other)), m));
     }
 }
