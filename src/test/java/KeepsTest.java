@@ -7,6 +7,7 @@ public final class KeepsTest {
         dueDigits();
         dueColumns();
         dueEachProduct();
+        dueEveryTurn();
         dueTold();
         dueRangeOfNine();
         dueNoCell();
@@ -97,6 +98,22 @@ public final class KeepsTest {
         CellBench withF = benchWith(10, 11, 12, 0, 0, 1);
         due(withF, "F changes", false, 1, 0, 0, 0, -1, 0, 0, 0, 1);
         due(withF, "D and E alone would", true, 1, 0, 0, 0, 1, 0, 0, 0, -1);
+    }
+
+    /** Every matrix that comes back to the identity keeps some cell: the sum over all its turns of one. */
+    private static void dueEveryTurn() {
+        CHECK.sentence("Promise 4", "A MATRIX, of nine numbers -1, 0, 1, KEEPS six numbers");
+        int turns = 0;
+        for (int nine = 0; nine < 19_683; nine++) {
+            long[] six = Plain.keptBy(nine);
+            if (six.length == 6) {
+                turns++;
+                CellBench bench = benchWith((int) six[0], (int) six[1], (int) six[2],
+                        (int) six[3], (int) six[4], (int) six[5]);
+                CHECK.due("keeps(0, " + nine + ")", bench.keeps(0, nine), true);
+            }
+        }
+        CHECK.due("more than those of one cell", turns > 48, true);
     }
 
     /** Told by long edges, the cell of whole numbers is kept by fewer matrices than reduced. */

@@ -1,5 +1,6 @@
 import java.math.BigInteger;
 import java.util.ArrayList;
+import java.util.Arrays;
 import java.util.List;
 import java.util.TreeMap;
 
@@ -157,14 +158,33 @@ final class Plain {
         return new long[] {out[0][0], out[1][1], out[2][2], out[1][2], out[0][2], out[0][1]};
     }
 
-    static boolean keeps(long[] six, int nine) {
+    private static long[][] matrixOf(int nine) {
         long[][] matrix = new long[3][3];
         int rest = nine;
         for (int i = 8; i >= 0; i--) {
             matrix[i / 3][i % 3] = rest % 3 - 1;
             rest /= 3;
         }
-        return java.util.Arrays.equals(made(six, matrix), six);
+        return matrix;
+    }
+
+    static boolean keeps(long[] six, int nine) {
+        return Arrays.equals(made(six, matrixOf(nine)), six);
+    }
+
+    /** Six numbers that a matrix keeps; none if it never comes back to the identity, whose turns are 12 at most. */
+    static long[] keptBy(int nine) {
+        long[][] matrix = matrixOf(nine);
+        long[] start = {3, 4, 5, 0, 0, 0};
+        long[] six = start;
+        long[] sum = new long[6];
+        for (int turn = 0; turn < 12; turn++) {
+            for (int i = 0; i < 6; i++) {
+                sum[i] += six[i];
+            }
+            six = made(six, matrix);
+        }
+        return Arrays.equals(six, start) ? sum : new long[0];
     }
 
     static int symmetry(long[] reducedSix) {
